@@ -352,7 +352,7 @@ public final class LogHouse {
         for (int place = 0; place < PLACES; place++) {
             Spot spot = leader.spots[place];
             if (spot.isOpen() && leader.gatherFromPromises(place, gathering)) {
-                spot.offer(gathering.identity);
+                spot.proposeAs(gathering.identity);
                 gathering.putTogether(spot.report);
             }
         }
@@ -376,7 +376,7 @@ public final class LogHouse {
         gathering.start(identity);
         for (int s = 0; s < STATIONS; s++) {
             if (stations[s].isUp) {
-                gathering.offer(s, stations[s].shelf, place);
+                gathering.addIfOfIt(s, stations[s].shelf, place);
             }
         }
         return gathering.isEnough();
@@ -473,7 +473,7 @@ public final class LogHouse {
             count = 0;
         }
 
-        void offer(int station, Shelf shelf, int place) {
+        void addIfOfIt(int station, Shelf shelf, int place) {
             if (count < PIECES && shelf.has(place) && shelf.identities[place] == identity) {
                 length = shelf.lengths[place];
                 points[count] = Report.pointOf(station);
@@ -577,14 +577,13 @@ public final class LogHouse {
             return (answeredBy >>> station & 1) == 1;
         }
 
-        void offer(int identity) {
+        void proposeAs(int identity) {
             proposedIdentity = identity;
             answeredBy = 0;
         }
 
         void forget() {
-            proposedIdentity = NO_IDENTITY;
-            answeredBy = 0;
+            proposeAs(NO_IDENTITY);
         }
 
         void hearAnswer(int station, int identity) {
@@ -654,7 +653,7 @@ public final class LogHouse {
         }
 
         void proposeDraft(int place) {
-            spots[place].offer(ballot);
+            spots[place].proposeAs(ballot);
             spots[place].report.cut(draft, draftLength);
             draftLength = 0;
         }
@@ -681,7 +680,7 @@ public final class LogHouse {
             for (int s = 0; s < STATIONS; s++) {
                 if (hasPromiseOf(s) && promises[s].has(place)) {
                     gathering.start(promises[s].identities[place]);
-                    offerPromises(place, gathering);
+                    addPromises(place, gathering);
                     if (gathering.isEnough()) {
                         return true;
                     }
@@ -690,10 +689,10 @@ public final class LogHouse {
             return false;
         }
 
-        private void offerPromises(int place, Gathering gathering) {
+        private void addPromises(int place, Gathering gathering) {
             for (int s = 0; s < STATIONS; s++) {
                 if (hasPromiseOf(s)) {
-                    gathering.offer(s, promises[s], place);
+                    gathering.addIfOfIt(s, promises[s], place);
                 }
             }
         }
@@ -715,7 +714,8 @@ public final class LogHouse {
             station = newStation;
             proposer = newProposer;
             ballot = newBallot;
-            aboutPlace(NONE, NONE);
+            place = NONE;
+            identity = NONE;
         }
 
         void aboutPlace(int newPlace, int newIdentity) {
@@ -746,11 +746,12 @@ public final class LogHouse {
 
         Letter take(int i) {
             Letter taken = slots[i];
-            for (int k = i; k < MOST_LETTERS; k++) {
+            count--;
+            for (int k = i; k < count; k++) {
                 slots[k] = slots[k + 1];
             }
+            slots[count] = slots[MOST_LETTERS];
             slots[MOST_LETTERS] = taken;
-            count--;
             return taken;
         }
 

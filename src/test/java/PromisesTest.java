@@ -1,6 +1,9 @@
 import java.util.NoSuchElementException;
 
-/** The promises of the document one by one: ordinary inputs, edges, wrong inputs. */
+/**
+ * The promises of the document one by one: ordinary inputs, edges, wrong inputs. No object gets more than the 512
+ * calls that the document speaks of.
+ */
 public final class PromisesTest {
     private static final int[] NO_PROPOSERS = {-1, 2, 9, Integer.MIN_VALUE, Integer.MAX_VALUE};
     private static final int[] NO_STATIONS = {-1, 7, 99, Integer.MIN_VALUE, Integer.MAX_VALUE};
@@ -26,6 +29,7 @@ public final class PromisesTest {
         deliverLeadsOverTwoReports();
         deliverLeadsWithManyPlaces();
         deliverAccepted();
+        deliverAcceptedOfOldBallot();
         drop();
         twin();
         twinKeepsContents();
@@ -65,7 +69,8 @@ public final class PromisesTest {
     }
 
     private static void dropAll(LogHouse x) {
-        for (int k = 0; k < 60 && x.letters() > 0; k++) {
+        int count = x.letters();
+        for (int k = 0; k < count; k++) {
             x.drop(0);
         }
     }
@@ -89,11 +94,12 @@ public final class PromisesTest {
     /** Delivers those of the letters of a kind that go to or come from the stations named, and drops all others. */
     private static void deliverOnly(LogHouse x, int kind, int... stations) {
         for (int i = x.letters() - 1; i >= 0; i--) {
+            int station = x.letter(i, 1);
             boolean wanted = false;
             for (int s : stations) {
-                wanted |= x.letter(i, 0) == kind && x.letter(i, 1) == s;
+                wanted |= station == s;
             }
-            if (wanted) {
+            if (wanted && x.letter(i, 0) == kind) {
                 x.deliver(i);
             } else {
                 x.drop(i);
@@ -244,6 +250,13 @@ public final class PromisesTest {
         Check.due("campaign(1) above 2", 3, z.campaign(1));
         z.deliver(6);
         Check.due("campaign(0) above 3", 4, z.campaign(0));
+        for (int s = 0; s < 7; s++) {
+            LogHouse only = new LogHouse();
+            only.campaign(1);
+            only.campaign(1);
+            only.deliver(7 + s);
+            Check.due("campaign(0) above what station " + s + " alone has promised", 6, only.campaign(0));
+        }
         for (int p : NO_PROPOSERS) {
             Check.dueArgument("campaign(" + p + ")", () -> z.campaign(p));
         }
@@ -636,12 +649,10 @@ public final class PromisesTest {
         for (int place = 0; place < 8; place++) {
             write(x, 0, place + 1);
             x.propose(0);
-            if (place == 3) {
-                dropAll(x);
-            } else {
-                deliverOnly(x, 2, 0, 1, 2, 3, 4, 5, 6);
-                dropAll(x);
+            for (int s = 0; s < 7 && place != 3; s++) {
+                x.deliver(0);
             }
+            dropAll(x);
         }
         x.campaign(1);
         for (int s = 0; s < 7; s++) {
@@ -717,6 +728,44 @@ public final class PromisesTest {
         deliverAll(y);
         Check.due("decided(0, 0): proposed again", 2, y.decided(0, 0));
         dueShare(y, 0, 0, 4, 2, 1, 1);
+    }
+
+    /** A report proposed again under a new ballot starts without answers, and the old ballot's do not count. */
+    private static void deliverAcceptedOfOldBallot() {
+        LogHouse x = led(0);
+        write(x, 0, 1);
+        x.propose(0);
+        for (int s = 0; s < 7; s++) {
+            x.deliver(0);
+        }
+        for (int k = 0; k < 4; k++) {
+            x.deliver(0);
+        }
+        x.campaign(0);
+        for (int s = 0; s < 7; s++) {
+            x.deliver(3);
+        }
+        for (int k = 0; k < 5; k++) {
+            x.deliver(3);
+        }
+        dueState(x, 0, 2, 4, 1, 5);
+        dueLetter(x, 0, 3, 4, 0, 2, 0, 2);
+        dueLetter(x, 5, 2, 0, 0, 4, 0, 2);
+        for (int k = 0; k < 3; k++) {
+            x.deliver(0);
+        }
+        Check.due("decided(0, 0): acceptances of the old ballot", 0, x.decided(0, 0));
+        dropAll(x);
+        Check.due("resend(0): none has answered", 7, x.resend(0));
+        for (int s = 0; s < 7; s++) {
+            x.deliver(0);
+        }
+        for (int k = 0; k < 4; k++) {
+            x.deliver(0);
+            Check.due("decided(0, 0) with " + (k + 1), 0, x.decided(0, 0));
+        }
+        x.deliver(0);
+        Check.due("decided(0, 0) with 5", 2, x.decided(0, 0));
     }
 
     // ---- promises 7 to 10
