@@ -6,8 +6,20 @@ final class Check {
 
     private static int wrong = 0;
     private static int looked = 0;
+    private static String sentence = "";
 
     private Check() {
+    }
+
+    /** A test of its own for one sentence of the document; one that fails keeps no other from its run. */
+    static void sentence(String words, Call test) {
+        sentence = "'" + words + "': ";
+        try {
+            test.make();
+        } catch (RuntimeException e) {
+            tell("a call threw " + e.getClass().getName() + " that should not");
+        }
+        sentence = "";
     }
 
     static void due(String call, long want, long got) {
@@ -59,7 +71,7 @@ final class Check {
     static void tell(String fault) {
         wrong++;
         if (wrong <= 50) {
-            System.out.println(fault);
+            System.out.println(sentence + fault);
         }
     }
 

@@ -4,11 +4,7 @@ import java.util.NoSuchElementException;
  * The promises of the document one by one: ordinary inputs, edges, wrong inputs. No object gets more than the 512
  * calls that the document speaks of.
  */
-public final class PromisesTest {
-    private static final int[] NO_PROPOSERS = {-1, 2, 9, Integer.MIN_VALUE, Integer.MAX_VALUE};
-    private static final int[] NO_STATIONS = {-1, 7, 99, Integer.MIN_VALUE, Integer.MAX_VALUE};
-    private static final int[] NO_PLACES = {-1, 8, 99, Integer.MIN_VALUE, Integer.MAX_VALUE};
-
+public final class PromisesTest extends Scenes {
     public static void main(String[] args) {
         newObject();
         byteIn();
@@ -49,116 +45,6 @@ public final class PromisesTest {
         share();
         shareCoding();
         Check.end("PromisesTest");
-    }
-
-    // ---- what the tests have in common
-
-    private static void write(LogHouse x, int proposer, int... bytes) {
-        for (int b : bytes) {
-            Check.due("byteIn(" + proposer + ", " + b + ", 1)", true, x.byteIn(proposer, b, 1));
-        }
-    }
-
-    /** Delivers the first letter until none lies, and counts the calls' answers. */
-    private static int deliverAll(LogHouse x) {
-        int came = 0;
-        for (int k = 0; k < 300 && x.letters() > 0; k++) {
-            came += x.deliver(0);
-        }
-        return came;
-    }
-
-    private static void dropAll(LogHouse x) {
-        int count = x.letters();
-        for (int k = 0; k < count; k++) {
-            x.drop(0);
-        }
-    }
-
-    private static LogHouse led(int proposer) {
-        LogHouse x = new LogHouse();
-        x.campaign(proposer);
-        deliverAll(x);
-        return x;
-    }
-
-    /** A house where proposer 0 has had a report decided at place 0 under identity 2. */
-    private static LogHouse settled(int... bytes) {
-        LogHouse x = led(0);
-        write(x, 0, bytes);
-        x.propose(0);
-        deliverAll(x);
-        return x;
-    }
-
-    /** Delivers those of the letters of a kind that go to or come from the stations named, and drops all others. */
-    private static void deliverOnly(LogHouse x, int kind, int... stations) {
-        for (int i = x.letters() - 1; i >= 0; i--) {
-            int station = x.letter(i, 1);
-            boolean wanted = false;
-            for (int s : stations) {
-                wanted |= station == s;
-            }
-            if (wanted && x.letter(i, 0) == kind) {
-                x.deliver(i);
-            } else {
-                x.drop(i);
-            }
-        }
-    }
-
-    /** Proposer 0 leads with ballot 2 and has its report accepted by the stations named; no answer comes back. */
-    private static LogHouse acceptedBy(int[] bytes, int... stations) {
-        LogHouse x = led(0);
-        write(x, 0, bytes);
-        x.propose(0);
-        deliverOnly(x, 2, stations);
-        dropAll(x);
-        return x;
-    }
-
-    /** A campaign of which the promises of the stations named alone come. */
-    private static int campaignOver(LogHouse x, int proposer, int... stations) {
-        x.campaign(proposer);
-        deliverOnly(x, 0, stations);
-        int came = 0;
-        for (int k = 0; k < stations.length; k++) {
-            came = x.deliver(0);
-        }
-        return came;
-    }
-
-    private static void dueLetter(LogHouse x, int i, int... fields) {
-        for (int what = 0; what < fields.length; what++) {
-            Check.due("letter(" + i + ", " + what + ")", fields[what], x.letter(i, what));
-        }
-    }
-
-    private static void dueRead(LogHouse x, int proposer, int place, int... bytes) {
-        Check.due("read(" + proposer + ", " + place + ")", bytes.length, x.read(proposer, place));
-        for (int i = 0; i < bytes.length; i++) {
-            Check.due("readByte(" + i + ")", bytes[i], x.readByte(i));
-        }
-    }
-
-    private static void dueStation(LogHouse x, int s, int promised, int bytes, int up, int wiped) {
-        Check.due("station(" + s + ", 0)", promised, x.station(s, 0));
-        Check.due("station(" + s + ", 1)", bytes, x.station(s, 1));
-        Check.due("station(" + s + ", 2)", up, x.station(s, 2));
-        Check.due("station(" + s + ", 3)", wiped, x.station(s, 3));
-    }
-
-    private static void dueState(LogHouse x, int proposer, int phase, int ballot, int free, int promises) {
-        Check.due("state(" + proposer + ", 0)", phase, x.state(proposer, 0));
-        Check.due("state(" + proposer + ", 1)", ballot, x.state(proposer, 1));
-        Check.due("state(" + proposer + ", 2)", free, x.state(proposer, 2));
-        Check.due("state(" + proposer + ", 3)", promises, x.state(proposer, 3));
-    }
-
-    private static void dueShare(LogHouse x, int s, int place, int... fields) {
-        for (int what = 0; what < fields.length; what++) {
-            Check.due("share(" + s + ", " + place + ", " + what + ")", fields[what], x.share(s, place, what));
-        }
     }
 
     // ---- promise 1
@@ -1191,16 +1077,5 @@ public final class PromisesTest {
             Check.due("share(" + s + ", 0, 11)", -1, x.share(s, 0, 11));
         }
         Check.due("the field's product of 0x57 and 0x83", 0xC1, slowProduct(0x57, 0x83));
-    }
-
-    private static int slowProduct(int a, int b) {
-        int product = 0;
-        for (int k = 0; k < 8; k++) {
-            product ^= (b >> k & 1) * (a << k);
-        }
-        for (int k = 14; k >= 8; k--) {
-            product ^= (product >> k & 1) * (0x11B << k - 8);
-        }
-        return product;
     }
 }
