@@ -147,7 +147,8 @@ public final class EdgesOfCallsTest extends Scenes {
     }
 
     private static void byteInOtherN() {
-        for (int n : new int[] {0, 5, 8, -1, -4, 256, Integer.MIN_VALUE, Integer.MAX_VALUE}) {
+        int[] others = {0, 5, 8, -1, -4, 256, 257, Integer.MIN_VALUE, Integer.MIN_VALUE + 1, Integer.MAX_VALUE};
+        for (int n : others) {
             String call = "byteIn(0, 7, " + n + ")";
             dueUntouched(call, Scenes::busy, x -> Check.due(call, false, x.byteIn(0, 7, n)));
             dueUntouched(call, LogHouse::new, x -> Check.due(call, false, x.byteIn(0, 7, n)));
@@ -162,7 +163,7 @@ public final class EdgesOfCallsTest extends Scenes {
                 write(x, 0, bytes[k]);
             }
             for (int k = 24 - n; k < 24; k++) {
-                bytes[k] = 4 - (24 - k) + 1;
+                bytes[k] = k - 19;
             }
             Check.due("byteIn of the last " + n, true, x.byteIn(0, 0x01020304, n));
             Check.due("byteIn of a 25th", false, x.byteIn(0, 9, 1));
@@ -172,11 +173,10 @@ public final class EdgesOfCallsTest extends Scenes {
 
     private static void byteInTooMany() {
         for (int n = 1; n <= 4; n++) {
-            int many = n;
             int[] bytes = counted(25 - n, 60);
             LogHouse x = new LogHouse();
             write(x, 1, bytes);
-            Check.due("byteIn of " + many + " behind " + bytes.length, false, x.byteIn(1, 0x01020304, many));
+            Check.due("byteIn of " + n + " behind " + bytes.length, false, x.byteIn(1, 0x01020304, n));
             dueWritten(x, 1, bytes);
         }
         LogHouse y = new LogHouse();
@@ -280,7 +280,7 @@ public final class EdgesOfCallsTest extends Scenes {
 
     private static void campaignForgets() {
         LogHouse x = led(0);
-        write(x, 0, 1);
+        write(x, 0, 1, 2, 3, 4);
         x.propose(0);
         dropAll(x);
         x.campaign(0);
@@ -289,6 +289,11 @@ public final class EdgesOfCallsTest extends Scenes {
         dueState(x, 0, 2, 4, 0, 5);
         Check.due("resend(0): nothing is proposed", 0, x.resend(0));
         Check.dueState("propose(0): nothing is written", () -> x.propose(0));
+        write(x, 0, 8);
+        Check.due("propose(0): the place is free again", 0, x.propose(0));
+        deliverAll(x);
+        Check.due("decided(0, 0)", 4, x.decided(0, 0));
+        dueRead(x, 0, 0, 8);
     }
 
     private static void campaignKeepsDecided() {
@@ -977,8 +982,8 @@ public final class EdgesOfCallsTest extends Scenes {
         Check.due("catchUp(6, 0) from three that are up", 1, x.catchUp(6, 0));
     }
 
-    /** Identity 2 is decided, by five of whom three are lost; the two others have a share of it, none another. */
-    private static void catchUpOfIdentity() {
+    /** Stations 0 .. 4 have shares of identity 3, which proposer 1 knows as decided; 5 and 6 of identity 2. */
+    private static LogHouse twoIdentities() {
         LogHouse x = acceptedBy(new int[] {1, 2, 3, 4}, 5, 6);
         campaignOver(x, 1, 0, 1, 2, 3, 4);
         write(x, 1, 9);
@@ -987,20 +992,18 @@ public final class EdgesOfCallsTest extends Scenes {
         x.drop(0);
         x.drop(0);
         deliverFirst(x, 5);
+        return x;
+    }
+
+    private static void catchUpOfIdentity() {
+        LogHouse x = twoIdentities();
         Check.due("decided(1, 0)", 3, x.decided(1, 0));
         for (int s = 0; s < 3; s++) {
             x.wipe(s);
         }
         Check.due("catchUp(0, 1): two of identity 3, two of identity 2", 0, x.catchUp(0, 1));
         dueShare(x, 0, 0, -1);
-        LogHouse y = acceptedBy(new int[] {1, 2, 3, 4}, 5, 6);
-        campaignOver(y, 1, 0, 1, 2, 3, 4);
-        write(y, 1, 9);
-        y.propose(1);
-        deliverFirst(y, 5);
-        y.drop(0);
-        y.drop(0);
-        deliverFirst(y, 5);
+        LogHouse y = twoIdentities();
         y.wipe(0);
         y.wipe(1);
         Check.due("catchUp(0, 1): three of identity 3", 1, y.catchUp(0, 1));

@@ -329,7 +329,7 @@ public final class EdgesOfTermsTest extends Scenes {
         deliverFirst(x, 7);
         deliverFirst(x, 4);
         fillUpTo(x, 60);
-        Check.due("deliver(0): the fifth, room for its own place alone", 1, x.deliver(0));
+        Check.due("deliver(0): the fifth, with room for one letter", 1, x.deliver(0));
         Check.due("letters()", 60, x.letters());
         dueLetter(x, 59, 2, 0, 1, 3, 0, 2);
         dueState(x, 1, 2, 3, 1, 5);
@@ -516,7 +516,7 @@ public final class EdgesOfTermsTest extends Scenes {
         Check.due("decided(0, 0)", 2, y.decided(0, 0));
     }
 
-    /** Letters 0 .. 6 are PREPARE 2, 7 .. 12 PREPARE 3 but for that of station 0, 13 .. 19 PREPARE 4, then PROMISE 3. */
+    /** Station 0 has promised 3; letters 0, 20 and 13 are PREPARE 2, 3 and 4 to it, and its PROMISE lies last. */
     private static LogHouse preparesAround() {
         LogHouse x = new LogHouse();
         x.campaign(0);
@@ -774,7 +774,7 @@ public final class EdgesOfTermsTest extends Scenes {
         x.campaign(1);
         deliverFirst(x, 7);
         deliverFirst(x, 4);
-        Check.due("deliver(0): eight places, of which two letters wait in the row", 56, x.deliver(0));
+        Check.due("deliver(0): eight places, behind two promises in the row", 56, x.deliver(0));
         dueState(x, 1, 2, 3, -1, 5);
     }
 

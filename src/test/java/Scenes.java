@@ -11,9 +11,10 @@ abstract class Scenes {
         void on(LogHouse x);
     }
 
-    static final int[] NO_PROPOSERS = {-1, 2, 9, Integer.MIN_VALUE, Integer.MAX_VALUE};
-    static final int[] NO_STATIONS = {-1, 7, 99, Integer.MIN_VALUE, Integer.MAX_VALUE};
-    static final int[] NO_PLACES = {-1, 8, 99, Integer.MIN_VALUE, Integer.MAX_VALUE};
+    // 256 and a little more would be right again if only a byte of them were looked at
+    static final int[] NO_PROPOSERS = {-1, 2, 9, 256, 257, Integer.MIN_VALUE, Integer.MAX_VALUE};
+    static final int[] NO_STATIONS = {-1, 7, 99, 256, 259, Integer.MIN_VALUE, Integer.MAX_VALUE};
+    static final int[] NO_PLACES = {-1, 8, 99, 256, 257, Integer.MIN_VALUE, Integer.MAX_VALUE};
 
     static void write(LogHouse x, int proposer, int... bytes) {
         for (int b : bytes) {
